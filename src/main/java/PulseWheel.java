@@ -155,7 +155,7 @@ public final class PulseWheel {
 
     public int row(int reader) {
         Reader asked = bench.readerAt(reader);
-        return asked == null ? 0 : asked.log.latestOfOneSort(KEPT_EVENTS);
+        return asked == null ? 0 : asked.log.keptOfOneSort();
     }
 
     public int period(int reader, int m, int part) {
@@ -163,7 +163,7 @@ public final class PulseWheel {
         if (asked == null || part < 0 || part >= PARTS_OF_PERIOD) {
             return NONE;
         }
-        if (m < LEAST_EVENTS_OF_PERIOD || m > MOST_EVENTS_OF_PERIOD || asked.log.latestOfOneSort(m) < m) {
+        if (m < LEAST_EVENTS_OF_PERIOD || m > MOST_EVENTS_OF_PERIOD || asked.log.keptOfOneSort() < m) {
             return NONE;
         }
         Span span = spanOf(asked.log, m, bench.ticks);
@@ -364,7 +364,7 @@ public final class PulseWheel {
 
         private void beginAnew(int now) {
             Arrays.fill(runs, 0);
-            log.count = 0;
+            log.forget();
             teeth.forget();
             clean = 0;
             place = 0;
@@ -390,7 +390,9 @@ public final class PulseWheel {
             settleLines(raw);
             noteChange(Math.floorMod(phase() - phaseBefore, PHASES), now);
             if ((clean & ~cleanBefore & Z_BIT) != 0) {
-                noteZero();
+                zeros++;
+                teeth.learn(log, turnCounts);
+                heedMark();
             }
             notePlace(now);
         }
@@ -429,9 +431,7 @@ public final class PulseWheel {
             log.add(sort, now, place);
         }
 
-        private void noteZero() {
-            zeros++;
-            teeth.learn(log, turnCounts);
+        private void heedMark() {
             if (hasOrigin) {
                 mend();
             } else if (low == high) {
@@ -485,6 +485,8 @@ public final class PulseWheel {
         private final int[] ticks;
         private final int[] places;
         private int count;
+        // How many of one sort the latest ones are: above 0 forward, below 0 back, 0 for a fault.
+        private int streak;
 
         private EventLog() {
             sorts = new int[KEPT_EVENTS];
@@ -492,8 +494,15 @@ public final class PulseWheel {
             places = new int[KEPT_EVENTS];
         }
 
+        private void forget() {
+            count = 0;
+            streak = 0;
+        }
+
         private void add(int sort, int tick, int place) {
             count++;
+            boolean goesOn = sort == FORWARD && streak > 0 || sort == BACK && streak < 0;
+            streak = goesOn ? streak + sort : sort;
             int slot = slotOf(0);
             sorts[slot] = sort;
             ticks[slot] = tick;
@@ -505,7 +514,8 @@ public final class PulseWheel {
         }
 
         private int slotOf(int k) {
-            return Math.floorMod(count - 1 - k, KEPT_EVENTS);
+            int number = count - 1 - k;
+            return number < 0 ? 0 : number % KEPT_EVENTS;
         }
 
         private int sortAt(int k) {
@@ -520,17 +530,8 @@ public final class PulseWheel {
             return places[slotOf(k)];
         }
 
-        private int latestOfOneSort(int limit) {
-            int most = Math.min(limit, kept());
-            int sort = most > 0 ? sortAt(0) : FAULT;
-            if (sort == FAULT) {
-                return 0;
-            }
-            int found = 1;
-            while (found < most && sortAt(found) == sort) {
-                found++;
-            }
-            return found;
+        private int keptOfOneSort() {
+            return Math.min(Math.abs(streak), KEPT_EVENTS);
         }
 
         private void copyFrom(EventLog other) {
@@ -538,6 +539,7 @@ public final class PulseWheel {
             System.arraycopy(other.ticks, 0, ticks, 0, KEPT_EVENTS);
             System.arraycopy(other.places, 0, places, 0, KEPT_EVENTS);
             count = other.count;
+            streak = other.streak;
         }
     }
 
@@ -560,14 +562,10 @@ public final class PulseWheel {
             // No events at the zero before stands for no such zero, too: neither makes a whole turn.
             boolean hasOneAhead = eventsAtZero > 0;
             boolean isFull = log.count - eventsAtZero == turnCounts;
-            if (hasOneAhead && isFull && areForward(log, turnCounts)) {
+            if (hasOneAhead && isFull && log.streak >= turnCounts) {
                 addTurn(log, turnCounts);
             }
             eventsAtZero = log.count;
-        }
-
-        private static boolean areForward(EventLog log, int events) {
-            return log.latestOfOneSort(events) == events && log.sortAt(0) == FORWARD;
         }
 
         private void addTurn(EventLog log, int turnCounts) {

@@ -550,6 +550,11 @@ public final class PromiseTest {
         Check.due("14 anew", x.wholes(0), 0);
         spin(x, 0, 4, true);
         Check.due("14 no zero ahead", x.wholes(0), 0);
+        x.turn(0, 4);
+        spin(x, 0, 1, true);
+        x.turn(0, 4);
+        spin(x, 0, 5, true);
+        Check.due("14 the zero ahead was before anew", x.wholes(0), 0);
     }
 
     private static void promise15Widest() {
@@ -634,6 +639,10 @@ public final class PromiseTest {
         Check.due("16 apart again", x.apart(), 7);
         x.back(0);
         Check.due("16 as the image has it", x.apart(), 4);
+        PulseWheel y = new PulseWheel();
+        spin(y, 0, 12, true);
+        y.tick(1, 0, 4);
+        Check.due("16 from the origin on, not from 0", y.apart(), NONE);
     }
 
     private static void promise17Keep() {
