@@ -200,8 +200,8 @@ public final class PulseWheel {
     }
 
     public int apart() {
-        // A reader can have begun anew since the last tick's end; while it has no origin both agree.
-        return bench.bothHaveOrigin() ? bench.apartSince : NONE;
+        // Agreement is asked at a tick's end only: a reader that began anew since changes nothing yet.
+        return bench.apartSince;
     }
 
     public boolean keep(int k) {
@@ -313,12 +313,8 @@ public final class PulseWheel {
             }
         }
 
-        private boolean bothHaveOrigin() {
-            return first.hasOrigin && second.hasOrigin;
-        }
-
         private boolean agree() {
-            if (!bothHaveOrigin()) {
+            if (!first.hasOrigin || !second.hasOrigin) {
                 return true;
             }
             long firstWay = (long) (first.place - first.originPlace) * second.turnCounts;

@@ -367,9 +367,6 @@ final class Model {
     }
 
     int apart() {
-        if (readers[0].origin == null || readers[1].origin == null) {
-            return -1;
-        }
         int first = -1;
         for (int tick = now(); tick >= 1 && !agreed.get(tick - 1); tick--) {
             first = tick;

@@ -144,6 +144,7 @@ public final class ModelTest {
             int turn = odd(4 + random.nextInt(6));
             due("turn(" + reader + ", " + turn + ")", real.turn(reader, turn) ? 1 : 0, model.turn(reader, turn) ? 1 : 0);
         }
+        askApart();
     }
 
     private void image() {
@@ -167,7 +168,7 @@ public final class ModelTest {
             case 7 -> askTooth(reader);
             case 8 -> due("wholes(" + reader + ")", real.wholes(reader), model.wholes(reader));
             case 9 -> due("widest(" + reader + ")", real.widest(reader), model.widest(reader));
-            case 10 -> due("apart()", real.apart(), model.apart());
+            case 10 -> askApart();
             default -> askAbout();
         }
     }
@@ -197,6 +198,10 @@ public final class ModelTest {
     private void askTooth(int reader) {
         int k = odd(random.nextInt(random.nextBoolean() ? 10 : 64));
         due("tooth(" + reader + ", " + k + ")", real.tooth(reader, k), model.tooth(reader, k));
+    }
+
+    private void askApart() {
+        due("apart()", real.apart(), model.apart());
     }
 
     private void askAbout() {

@@ -31,6 +31,7 @@ public final class PromiseTest {
         promise15Widest();
         promise16Apart();
         promise16ApartAnew();
+        promise16ApartUpToTheNextTick();
         promise17Keep();
         promise18Back();
         promise19About();
@@ -632,9 +633,8 @@ public final class PromiseTest {
         Check.due("16 apart", x.apart(), 4);
         x.keep(0);
         x.hold(1, 1);
-        Check.due("16 agree while one has none", x.apart(), NONE);
         x.tick(1, 0, 0);
-        Check.due("16 agree behind it", x.apart(), NONE);
+        Check.due("16 agree while one has no origin", x.apart(), NONE);
         x.tick(1, 0, 4);
         Check.due("16 apart again", x.apart(), 7);
         x.back(0);
@@ -643,6 +643,47 @@ public final class PromiseTest {
         spin(y, 0, 12, true);
         y.tick(1, 0, 4);
         Check.due("16 from the origin on, not from 0", y.apart(), NONE);
+    }
+
+    /** Agreement is asked at a tick's end, so a reader told of a hold or turn changes nothing before one. */
+    private static void promise16ApartUpToTheNextTick() {
+        for (int mover = 0; mover < 2; mover++) {
+            for (int told = 0; told < 2; told++) {
+                for (int counts : new int[] {0, 4, 16, 64}) {
+                    promise16ApartTold(mover, told, counts);
+                }
+            }
+        }
+    }
+
+    private static void promise16ApartTold(int mover, int told, int counts) {
+        String when = "16 mover " + mover + ", told " + told + " of " + counts + ": ";
+        PulseWheel x = new PulseWheel();
+        x.tick(1, 4, 4);
+        for (int bits : new int[] {1, 3, 2, 0, 1, 3, 2, 0}) {
+            x.tick(1, mover == 0 ? bits : 0, mover == 1 ? bits : 0);
+        }
+        Check.due(when + "apart", x.apart(), 4);
+        Check.due(when + "no tick since", apartOnceTold(x, told, counts), 4);
+        x.keep(3);
+        x.tick(0, 0, 0);
+        x.play(0);
+        Check.due(when + "none by tick(0) and play(0)", x.apart(), 4);
+        Check.due(when + "the other reader told too", apartOnceTold(x, 1 - told, counts), 4);
+        x.tick(1, 0, 0);
+        Check.due(when + "no origin at a tick's end", x.apart(), NONE);
+        Check.due(when + "told behind that", apartOnceTold(x, told, counts), NONE);
+        x.back(3);
+        Check.due(when + "as the image has it", x.apart(), 4);
+        x.tick(1, told == 0 ? 4 : 0, told == 1 ? 4 : 0);
+        // The reader that never moved, told: the other one's eight counts still stand against its new origin.
+        Check.due(when + "an origin by the next tick's end", x.apart(), told == mover ? NONE : 4);
+    }
+
+    /** Tells a reader of a turn, or for no counts of its hold. */
+    private static int apartOnceTold(PulseWheel x, int reader, int counts) {
+        Check.due("16 told", counts == 0 ? x.hold(reader, 1) : x.turn(reader, counts), true);
+        return x.apart();
     }
 
     private static void promise17Keep() {
