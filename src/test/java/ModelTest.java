@@ -3,7 +3,9 @@ import java.util.Random;
 /** Made-up runs of calls, the same ones each time: every answer must be the model's. */
 public final class ModelTest {
     private static final int RUNS = 400;
+    /** What an object answers behind these is free. */
     private static final int CALLS = 512;
+    private static final int MOST_CALLS_AT_ONCE = 7;
     private static final int[] BITS = {0, 1, 3, 2};
     private static final int[] ODD = {-1, 2, 3, 4, 5, 16, 17, 64, 65, 300, 500, 501, 2000, 2001, -2000000,
         Integer.MIN_VALUE, Integer.MAX_VALUE};
@@ -69,7 +71,7 @@ public final class ModelTest {
     private void play() {
         tell(0, 1 + random.nextInt(2), 4 + random.nextInt(random.nextInt(4) == 0 ? 61 : 6));
         tell(1, 1 + random.nextInt(2), 4 + random.nextInt(random.nextInt(4) == 0 ? 61 : 6));
-        while (call < CALLS && Check.wrongSoFar() == 0) {
+        while (call <= CALLS - MOST_CALLS_AT_ONCE && Check.wrongSoFar() == 0) {
             int kind = random.nextInt(100);
             if (kind < 22) {
                 feedAndPlay();
@@ -123,7 +125,7 @@ public final class ModelTest {
             due("feed", real.feed(w[0], w[1], w[2], w[3], w[4]), model.feed(w[0], w[1], w[2], w[3], w[4]));
         }
         if (random.nextInt(12) != 0) {
-            int n = random.nextInt(4) == 0 ? random.nextInt(feeds * 20 + 2) - 1 : real.about(1);
+            int n = random.nextInt(4) == 0 ? random.nextInt(feeds * 20 + 2) - 1 : model.about(1);
             due("play(" + n + ")", real.play(n), model.play(n));
         }
     }

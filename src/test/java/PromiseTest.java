@@ -164,6 +164,12 @@ public final class PromiseTest {
         Check.due("4 all bits", x.tick(1, 7, 6), 1);
         Check.due("4 bits of 0", x.of(0, 4), 7);
         Check.due("4 bits of 1", x.of(1, 4), 6);
+        promise04TickAtTheEnd();
+    }
+
+    private static void promise04TickAtTheEnd() {
+        PulseWheel x = new PulseWheel();
+        x.tick(1, 7, 6);
         for (int i = 0; i < 499; i++) {
             x.tick(2000, 0, 0);
         }
@@ -439,21 +445,22 @@ public final class PromiseTest {
     }
 
     private static void promise12Moved() {
-        PulseWheel x = new PulseWheel();
+        Hand hand = new Hand();
+        PulseWheel x = hand.wheel;
         for (int no : NO_READERS) {
             Check.due("12 no reader", x.moved(no, 1), NO_VALUE);
         }
-        int phase = spin(x, 0, 499, false);
+        hand.move(0, 499);
         Check.due("12 since the beginning", x.moved(0, 499), 499);
         Check.due("12 too early", x.moved(0, 500), NO_VALUE);
-        spin(x, phase, 3, false);
+        hand.move(0, 3);
         Check.due("12 500", x.moved(0, 500), 500);
         for (int no : new int[] {0, -1, 501, Integer.MIN_VALUE, Integer.MAX_VALUE}) {
             Check.due("12 moved " + no, x.moved(0, no), NO_VALUE);
         }
-        x.tick(2000, BITS[(phase + 3) % 4], 0);
+        hand.rest(2000);
         Check.due("12 at rest", x.moved(0, 500), 0);
-        spin(x, (phase + 3) % 4, -2, false);
+        hand.move(0, -2);
         Check.due("12 back", x.moved(0, 2), -2);
         Check.due("12 by one", x.moved(0, 1), -1);
         x.turn(0, 4);
